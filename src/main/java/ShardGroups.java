@@ -423,12 +423,10 @@ public final class ShardGroups {
             configurations[0] = first;
         }
 
-        @Override
         void carryOut(Entry entry) {
             entry.changeService(this);
         }
 
-        @Override
         int lastNumber() {
             return last;
         }
@@ -458,12 +456,10 @@ public final class ShardGroups {
             }
         }
 
-        @Override
         void carryOut(Entry entry) {
             entry.changeStore(this);
         }
 
-        @Override
         int lastNumber() {
             return number;
         }
@@ -667,7 +663,6 @@ public final class ShardGroups {
             this.b = b;
         }
 
-        @Override
         void changeService(ServiceNode node) {
             Configuration before = node.configurations[node.last];
             if (node.isComplete() || !isAllowed(before)) {
@@ -705,7 +700,6 @@ public final class ShardGroups {
             this.next = next;
         }
 
-        @Override
         void changeStore(StoreNode node) {
             node.adopt(c, next);
         }
@@ -727,7 +721,6 @@ public final class ShardGroups {
             this.value = value;
         }
 
-        @Override
         void changeStore(StoreNode node) {
             node.shards[shardOf(key)].serve(this);
         }
@@ -746,7 +739,6 @@ public final class ShardGroups {
             contents.copyContents(sent);
         }
 
-        @Override
         void changeStore(StoreNode node) {
             Shard mine = node.shards[shard];
             if (mine.condition == PULLING && node.number == c) {
@@ -766,7 +758,6 @@ public final class ShardGroups {
             this.c = c;
         }
 
-        @Override
         void changeStore(StoreNode node) {
             Shard mine = node.shards[shard];
             if (mine.condition == SENDING && node.number == c) {

@@ -244,6 +244,14 @@ public final class MovingTest {
         DUES.due("one of its own", x.confirm(3, 0, 4), ShardGroups.EARLY);
         DUES.due("the one that pulls does not send", x.confirm(6, 0, 3), ShardGroups.EARLY);
         DUES.due("now", x.confirm(3, 0, 6) > 0, true);
+        Steps.spread(x, 1);
+        DUES.due("gone already, and there", x.confirm(3, 0, 6), ShardGroups.EARLY);
+        Steps.change(x, 2, 7, 2);
+        for (int i = 0; i < 3; i++) {
+            Steps.poll(x, 3);
+        }
+        DUES.due("further on", x.configuration(9), 3);
+        DUES.due("further on, but not the owner", x.confirm(3, 1, 9), ShardGroups.EARLY);
     }
 
     private static void testConfirmFullAndNone() {

@@ -55,6 +55,11 @@ public final class ServiceTest {
         owners(x, 5, "33333333");
         Steps.change(x, 1, 3, 0);
         DUES.due("the only one stays", x.configuration(0), 5);
+        ShardGroups y = Steps.led(0);
+        Steps.change(y, 0, 1, 0);
+        Steps.change(y, 0, 2, 0);
+        Steps.change(y, 1, 2, 0);
+        owners(y, 3, "11111111");
     }
 
     private static void testLeaveWithUnevenMembers() {
