@@ -11,7 +11,7 @@ public final class MovingTest {
         testPullEarly();
         testPullFullAndNone();
         testInsertIsACopy();
-        testInsertOfAnotherConfiguration();
+        testInsertTwice();
         testConfirm();
         testConfirmEarly();
         testConfirmFullAndNone();
@@ -140,7 +140,7 @@ public final class MovingTest {
         testPullFromAnotherConfiguration();
     }
 
-    /** Group 1 sends shard 7 in configuration 3, group 2 pulls it in 4, where group 1 is not yet. */
+    /** Shard 4 goes from group 1 to 3 in configuration 3, and on to 2 in 4, where group 1 is not yet. */
     private static void testPullFromAnotherConfiguration() {
         ShardGroups x = Steps.moving();
         for (int shard = 0; shard < 4; shard++) {
@@ -206,8 +206,8 @@ public final class MovingTest {
         DUES.due("gone at the others", x.value(6, 0), ShardGroups.NONE);
     }
 
-    /** Two INSERTs are written; the second is of no use when the shard serves, or moves again. */
-    private static void testInsertOfAnotherConfiguration() {
+    /** Two INSERTs are written; the second comes when the shard serves, and has changed. */
+    private static void testInsertTwice() {
         ShardGroups x = Steps.moving();
         x.pull(6, 0, 3);
         x.request(6, 0, 5, 1, 0, 66);
@@ -271,7 +271,7 @@ public final class MovingTest {
         DUES.due("the node is down", x.confirm(3, 0, 7), ShardGroups.NONE);
     }
 
-    /** The second DELETE comes when the shard is SENDING again, in a later configuration. */
+    /** Two DELETEs are written; the second must not harm the shard, which comes back later. */
     private static void testDeleteTwice() {
         ShardGroups x = Steps.moving();
         for (int shard = 0; shard < 4; shard++) {
