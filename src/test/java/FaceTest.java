@@ -61,11 +61,13 @@ public final class FaceTest {
         for (Class<?> inside : ShardGroups.class.getDeclaredClasses()) {
             dues.due(inside + " is static", Modifier.isStatic(inside.getModifiers()), true);
             dues.due(inside + " is public", Modifier.isPublic(inside.getModifiers()), false);
-            for (Method method : inside.getDeclaredMethods()) {
-                dues.due(method + " bears a public name", names.contains(method.getName()), false);
-            }
+            testPrivateNames(dues, inside, names);
         }
-        for (Method method : ShardGroups.class.getDeclaredMethods()) {
+        testPrivateNames(dues, ShardGroups.class, names);
+    }
+
+    private static void testPrivateNames(Dues dues, Class<?> type, Set<String> names) {
+        for (Method method : type.getDeclaredMethods()) {
             if (Modifier.isPrivate(method.getModifiers())) {
                 dues.due(method + " bears a public name", names.contains(method.getName()), false);
             }

@@ -6,6 +6,11 @@ public final class NodesTest {
         testNewObject();
         testCrashAndRecover();
         testWhatSurvivesACrash();
+        testTermSurvivesACrash();
+        testUnknownEntriesSurviveACrash();
+        testStateGoesOnAfterACrash();
+        testEveryLeaderLeadsNoMore();
+        testRefusedCallsChangeNothing();
         testReadingNodes();
         DUES.end();
     }
@@ -64,6 +69,97 @@ public final class NodesTest {
         x.crash(0);
         DUES.due("owners of a node that is down", x.owner(0, 2, 0), 2);
         DUES.due("configuration of a node that is down", x.configuration(0), 2);
+    }
+
+    /** A node that forgot its term would grant a term twice, or ask for one that was led already. */
+    private static void testTermSurvivesACrash() {
+        ShardGroups x = new ShardGroups();
+        x.elect(4);
+        for (int node = 3; node < 6; node++) {
+            x.crash(node);
+            DUES.due("while it is down", x.term(node), 1);
+            x.recover(node);
+            DUES.due("when it is up again", x.term(node), 1);
+        }
+        DUES.due("the next term of the one that led", x.elect(4), 4);
+        x.crash(3);
+        x.recover(3);
+        DUES.due("a term of one that granted", x.elect(3), 6);
+    }
+
+    private static void testUnknownEntriesSurviveACrash() {
+        ShardGroups x = Steps.led(0);
+        x.change(0, 0, 2, 0);
+        x.change(0, 0, 3, 0);
+        x.crash(0);
+        x.recover(0);
+        DUES.due("length", x.length(0), 3);
+        DUES.due("known", x.known(0), 1);
+        DUES.due("it has them yet, so it is not behind", x.elect(0), 6);
+        Steps.spread(x, 0);
+        DUES.due("now they are known, and NOTHING", x.known(1), 4);
+        DUES.due("what the first one made", x.owner(1, 1, 7), 2);
+        DUES.due("what the second one made", x.owner(1, 2, 0), 3);
+    }
+
+    /** A state that began anew, or that carried entries out twice, would show here. */
+    private static void testStateGoesOnAfterACrash() {
+        ShardGroups x = Steps.serving();
+        Steps.request(x, 1, 0, 1, 2, 3, 10);
+        x.crash(4);
+        x.recover(4);
+        DUES.due("the value of one that was down", x.value(4, 3), 10);
+        Steps.request(x, 1, 0, 2, 2, 3, 10);
+        DUES.due("it goes on from there", x.value(4, 3), 20);
+        DUES.due("with the numbers", x.latest(4, 0, 3), 2);
+        x.crash(3);
+        x.recover(3);
+        x.elect(3);
+        Steps.spread(x, 1);
+        Steps.request(x, 1, 0, 2, 2, 3, 10);
+        Steps.request(x, 1, 0, 3, 2, 3, 10);
+        DUES.all("at both, and at most once", 30, x.value(3, 3), x.value(4, 3));
+        x.crash(0);
+        x.recover(0);
+        x.elect(0);
+        Steps.change(x, 0, 2, 0);
+        DUES.due("the service goes on from its configurations", x.configuration(0), 2);
+        DUES.due("with its members", x.owner(0, 2, 7), 1);
+    }
+
+    private static void testEveryLeaderLeadsNoMore() {
+        for (int node = 0; node < 12; node++) {
+            ShardGroups x = new ShardGroups();
+            int term = x.elect(node);
+            DUES.due("leads", x.term(node), 1000 + term);
+            x.crash(node);
+            DUES.due("leads no more", x.term(node), term);
+            x.recover(node);
+            DUES.due("does not lead again", x.term(node), term);
+            DUES.due("and can't ship", x.ship(node, node / 3 * 3 + (node + 1) % 3), ShardGroups.FOLLOWS);
+        }
+    }
+
+    private static ShardGroups withSomeDown() {
+        ShardGroups x = Steps.moving();
+        for (int node = 1; node < 12; node += 3) {
+            x.crash(node);
+        }
+        return x;
+    }
+
+    /** False is due, which counts 0. */
+    private static void testRefusedCallsChangeNothing() {
+        Refusals refusals = new Refusals(DUES);
+        int[] none = {-1, 12, Integer.MIN_VALUE, Integer.MAX_VALUE};
+        for (int node : none) {
+            refusals.due("some down", NodesTest::withSomeDown, new Call("crash", node), 0);
+            refusals.due("some down", NodesTest::withSomeDown, new Call("recover", node), 0);
+        }
+        for (int node = 0; node < 12; node++) {
+            String name = node % 3 == 1 ? "crash" : "recover";
+            refusals.due("some down", NodesTest::withSomeDown, new Call(name, node), 0);
+        }
     }
 
     private static void testReadingNodes() {

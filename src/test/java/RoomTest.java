@@ -27,19 +27,19 @@ public final class RoomTest {
         DUES.end();
     }
 
-    /** Many INSERTs, which are the dearest entries, and as many configurations as there may be. */
+    /** Many INSERTs, which are the dearest entries, and as many configurations as there may be, in 512 calls. */
     private static ShardGroups fullLogs() {
         ShardGroups x = Steps.moving();
         for (int i = 0; i < 80; i++) {
             x.pull(6, i % 4, 3);
         }
-        Steps.spread(x, 2);
+        Steps.copy(x, 6, 7);
         for (int i = 0; i < 16; i++) {
-            Steps.change(x, 2, i % 8, 1 + i % 2);
+            x.change(0, 2, i % 8, 1 + i % 2);
         }
         Steps.fill(x, 0);
+        Steps.copy(x, 0, 1);
         Steps.fill(x, 3);
-        Steps.fill(x, 9);
         return x;
     }
 

@@ -70,12 +70,29 @@ final class Steps {
         return x;
     }
 
+    /** Writes entries of one kind, which change little, until there is no more room. */
     static void fill(ShardGroups x, int node) {
-        for (int i = 0; i < 80; i++) {
-            if (node < 3) {
-                x.change(node, 1, 3, 0);
-            } else {
-                x.request(node, 0, 1, 0, 0, 0);
+        int answer = 0;
+        for (int i = 0; i < 80 && answer >= 0 && answer < 80; i++) {
+            answer = node < 3 ? x.change(node, 1, 3, 0) : x.request(node, 0, 1, 0, 0, 0);
+        }
+    }
+
+    /** Copies all that a leader has to another node of its group; it ends when that one is down, too. */
+    static void copy(ShardGroups x, int leader, int to) {
+        int length = x.length(leader);
+        int answer = 0;
+        for (int i = 0; i < 80 && answer >= 0 && answer < length; i++) {
+            answer = x.ship(leader, to);
+        }
+    }
+
+    /** Every leader copies all to both other nodes, so that what is in its log shows in their states. */
+    static void copyAll(ShardGroups x) {
+        for (int node = 0; node < 12; node++) {
+            if (x.term(node) > 1000) {
+                copy(x, node, node / 3 * 3 + (node + 1) % 3);
+                copy(x, node, node / 3 * 3 + (node + 2) % 3);
             }
         }
     }
