@@ -1,7 +1,26 @@
 /** Counts the answers that are not the ones that are due, and ends a test by that count. */
 final class Dues {
+    /** Far above what any test needs, so that a call that never ends lets its test fail. */
+    private static final int SECONDS = 300;
+
     private int wrong;
     private int tested;
+
+    Dues() {
+        Thread watch = new Thread(Dues::endLate);
+        watch.setDaemon(true);
+        watch.start();
+    }
+
+    private static void endLate() {
+        try {
+            Thread.sleep(1000L * SECONDS);
+        } catch (InterruptedException e) {
+            return;
+        }
+        System.out.println("not done after " + SECONDS + " seconds");
+        Runtime.getRuntime().halt(1);
+    }
 
     void due(String call, long got, long want) {
         tested++;

@@ -22,6 +22,7 @@ public final class MovingTest {
         testInsertTwice();
         testConfirm();
         testConfirmEarly();
+        testConfirmWithOneThatIsBehind();
         testStaleLeaderConfirms();
         testConfirmFullAndNone();
         testDeleteTwice();
@@ -352,6 +353,27 @@ public final class MovingTest {
         DUES.due("the other one is further on", x.pull(6, 0, 7), ShardGroups.EARLY);
         DUES.due("and so is 8", x.pull(6, 0, 8), ShardGroups.EARLY);
         DUES.due("nothing is written", x.length(6), length);
+    }
+
+    /** Shard 0 goes to group 2 and comes back; 5 is at configuration 1 yet, where it has always served it. */
+    private static void testConfirmWithOneThatIsBehind() {
+        ShardGroups x = Steps.moving();
+        x.ship(3, 5);
+        x.ship(3, 5);
+        for (int shard = 0; shard < 4; shard++) {
+            Steps.pull(x, 2, shard, 1);
+            Steps.confirm(x, 1, shard, 2);
+        }
+        Steps.change(x, 2, 0, 1);
+        Steps.poll(x, 1);
+        Steps.poll(x, 2);
+        DUES.due("SENDING, in configuration 3", x.condition(6, 0) * 10 + x.configuration(6), 33);
+        DUES.due("SERVING, in configuration 1", x.condition(5, 0) * 10 + x.configuration(5), 11);
+        DUES.due("its number is less, though it serves", x.confirm(6, 0, 5), ShardGroups.EARLY);
+        DUES.due("it has not sent it yet, where it is", x.pull(3, 0, 5), ShardGroups.EARLY);
+        Steps.pull(x, 1, 0, 2);
+        DUES.due("its number is less yet", x.confirm(6, 0, 5), ShardGroups.EARLY);
+        DUES.due("there, at 3", x.confirm(6, 0, 3) > 0, true);
     }
 
     /** 3 is SENDING shard 0 to group 2 in configuration 2, and does not know that its group is further on. */
